@@ -385,7 +385,7 @@ public final class Coachparty {
       }
     }
     sum = withPairs(sum);
-    sum = sum * 31 + asked();
+    sum = sum * 31 + mending.fewest();
     sum = sum * 31 + rooms(true);
     sum = sum * 31 + rooms(false);
     sum = sum * 31 + split(4, true);
@@ -763,9 +763,9 @@ public final class Coachparty {
       return sum;
     }
 
-    /** What a guest costs, and its pairs with the guests from a number on. */
+    /** What a guest (or NONE) costs, and its pairs with the guests from a number on. */
     private int costOf(int guest, int from) {
-      int seat = guests.get(guest, SEAT);
+      int seat = guest == NONE ? NONE : guests.get(guest, SEAT);
       if (seat == NONE) {
         return 0;
       }
@@ -793,16 +793,12 @@ public final class Coachparty {
     int change(int guest, int seat) {
       int home = guests.get(guest, SEAT);
       int other = sitter(seat);
-      int before = costOfBoth(guest, other);
+      // The pair of both is counted twice, but it is as far apart after their swap as ahead of it.
+      int before = costOf(guest, 0) + costOf(other, 0);
       swap(guest, seat);
-      int after = costOfBoth(guest, other);
+      int after = costOf(guest, 0) + costOf(other, 0);
       swap(guest, home);
       return after - before;
-    }
-
-    // The pair of both is counted twice here, but it is as far apart after their swap as ahead of it.
-    private int costOfBoth(int guest, int other) {
-      return costOf(guest, 0) + (other == NONE ? 0 : costOf(other, 0));
     }
 
     /** Makes the move that lowers the cost most; false if none lowers it. */
@@ -828,83 +824,64 @@ public final class Coachparty {
     }
   }
 
-  /** How few have to change their seats for a lawful seating. */
+  /** How few have to change their seats for a lawful seating. Who is tried stands up, and has its seat back then. */
   private static final class Mending {
     private final Seating seating;
+    private final Table guests;
 
     Mending(Seating seating) {
       this.seating = seating;
+      guests = seating.guests;
     }
 
     int fewest() {
       if (seating.breaches() == 0) {
         return 0;
       }
-      int all = seating.aboardSet();
-      if (isOneEnough(all)) {
-        return 1;
-      }
-      return areTwoEnough(all) ? 2 : 3;
-    }
-
-    private boolean isOneEnough(int all) {
-      for (int guest = 0; guest < MOST_GUESTS; guest++) {
-        if (isIn(all, guest) && areEnough(guest, guest)) {
-          return true;
+      for (int guest = 0; guest < guests.count; guest++) {
+        if (seating.sits(guest) && areEnough(guest, guest)) {
+          return 1;
         }
       }
-      return false;
-    }
-
-    private boolean areTwoEnough(int all) {
-      for (int one = 0; one < MOST_GUESTS; one++) {
-        for (int other = one + 1; other < MOST_GUESTS; other++) {
-          if (isIn(all, one) && isIn(all, other) && areEnough(one, other)) {
-            return true;
+      for (int one = 0; one < guests.count; one++) {
+        for (int other = one + 1; other < guests.count; other++) {
+          if (seating.sits(one) && seating.sits(other) && areEnough(one, other)) {
+            return 2;
           }
         }
       }
-      return false;
+      return 3;
     }
 
-    /** Whether the seating is lawful as two guests (or one, told twice) go; they stand up and sit down again here. */
+    /** Whether the seating can be lawful as two guests go (or one, told twice). */
     private boolean areEnough(int one, int other) {
-      int home = seating.guests.get(one, SEAT);
-      int otherHome = seating.guests.get(other, SEAT);
-      seating.guests.set(one, SEAT, NONE);
-      seating.guests.set(other, SEAT, NONE);
-      boolean areEnough = seating.breaches() == 0 && (one == other ? finds(one) : findBoth(one, other));
-      seating.guests.set(one, SEAT, home);
-      seating.guests.set(other, SEAT, otherHome);
-      return areEnough;
-    }
-
-    private boolean findBoth(int one, int other) {
-      for (int seat = 0; seat < seating.cabin.seats(); seat++) {
-        if (suits(one, seat) && finds(other)) {
-          return true;
+      int home = guests.get(one, SEAT);
+      int otherHome = guests.get(other, SEAT);
+      guests.set(one, SEAT, NONE);
+      guests.set(other, SEAT, NONE);
+      boolean isLawful = false;
+      boolean areOthersLawful = seating.breaches() == 0;
+      for (int seat = 0; areOthersLawful && !isLawful && seat < seating.cabin.seats(); seat++) {
+        if (seating.isFree(seat)) {
+          guests.set(one, SEAT, seat);
+          isLawful = seating.breachesOf(one, 0) == 0 && (one == other || isSeatFor(other));
         }
       }
-      return false;
+      guests.set(one, SEAT, home);
+      guests.set(other, SEAT, otherHome);
+      return isLawful;
     }
 
-    private boolean finds(int guest) {
-      for (int seat = 0; seat < seating.cabin.seats(); seat++) {
-        if (suits(guest, seat)) {
-          return true;
+    private boolean isSeatFor(int guest) {
+      boolean isFound = false;
+      for (int seat = 0; !isFound && seat < seating.cabin.seats(); seat++) {
+        if (seating.isFree(seat)) {
+          guests.set(guest, SEAT, seat);
+          isFound = seating.breachesOf(guest, 0) == 0;
         }
       }
-      seating.guests.set(guest, SEAT, NONE);
-      return false;
-    }
-
-    /** Seats a guest on a seat that is free; whether it breaks nothing there. */
-    private boolean suits(int guest, int seat) {
-      if (!seating.isFree(seat)) {
-        return false;
-      }
-      seating.guests.set(guest, SEAT, seat);
-      return seating.breachesOf(guest, 0) == 0;
+      guests.set(guest, SEAT, NONE);
+      return isFound;
     }
   }
 
