@@ -1002,7 +1002,7 @@ public final class Coachparty {
     /** Drives a way; how many breaks were made on it. A break is made only if a minute behind it is driven. */
     private int driveWay(int way) {
       int since = sinceBreak + way;
-      int breaks = way == 0 ? 0 : (since - 1) / BETWEEN_BREAKS;
+      int breaks = Math.max(0, since - 1) / BETWEEN_BREAKS;
       clock += way + breaks * BREAK;
       driven += way;
       sinceBreak = since - breaks * BETWEEN_BREAKS;

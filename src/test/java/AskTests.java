@@ -144,6 +144,19 @@ public final class AskTests {
     stopIs("one on the way, none as it ends", w, 0, 585, 0, 585, 1, 540);
     w.stop(0, 100, 2000, 0);
     stopIs("no way after 540", w, 1, 585, 0, 685, 0, 540);
+
+    Coachparty v = new Coachparty();
+    v.begin(0);
+    v.stop(271, 0, 2000, 0);
+    v.stop(269, 0, 2000, 0);
+    stopIs("one minute behind the break", v, 0, 316, 0, 316, 1, 271);
+    stopIs("then 270 without one", v, 1, 585, 0, 585, 0, 540);
+
+    Coachparty u = new Coachparty();
+    u.begin(0);
+    u.stop(270, 0, 2000, 0);
+    u.stop(1, 0, 2000, 0);
+    stopIs("a break for one minute more", u, 1, 316, 0, 316, 1, 271);
   }
 
   private static void promise21Stuck() {

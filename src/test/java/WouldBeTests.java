@@ -98,6 +98,24 @@ public final class WouldBeTests {
     Check.due("the one between goes", y.asked(), 1);
     y.pair(0, 2, 0, 1);
     Check.due("must, and the one between goes", y.asked(), 2);
+
+    Coachparty z = seated(2);
+    z.coach(2, 0);
+    z.guest(0, 0, 0, 7);
+    z.seat(2, 4);
+    z.pair(0, 2, 0, 2);
+    z.pair(1, 2, 0, 1);
+    Check.due("no other seat of one is far from 0 and beside 1", z.asked(), 2);
+    Coachparty w = seated(2);
+    w.pair(0, 1, 0, 1);
+    w.move(1, 15);
+    w.coach(4, 0);
+    for (int seat = 1; seat < 15; seat++) {
+      w.out(seat, seat != 7);
+    }
+    Check.due("the one free seat is not beside 0, but beside that of 1", w.asked(), 3);
+    w.out(11, false);
+    Check.due("0 goes beside 1", w.asked(), 1);
   }
 
   private static void promise26Rooms() {
@@ -136,6 +154,14 @@ public final class WouldBeTests {
     x.pair(1, 3, 9, 0);
     Check.due("below 0", x.rooms(false), -27);
     Check.due("0 and 4 each in one", x.rooms(true), 3);
+    Coachparty z = seated(6);
+    z.pair(0, 4, 9, 0);
+    z.pair(0, 5, 9, 0);
+    z.pair(4, 5, 9, 0);
+    z.pair(1, 2, 9, 0);
+    z.pair(2, 3, 9, 0);
+    Check.due("three friends, and three others", z.rooms(false), 240 - 27 - 18);
+    Check.due("in two groups", z.rooms(true), 2);
     Coachparty y = seated(2);
     y.pair(0, 1, -9, 0);
     y.rates(40, 71, 0);
@@ -174,6 +200,14 @@ public final class WouldBeTests {
     x.pair(1, 3, 0, 1);
     Check.due("all hang together, and must not", x.split(4, true), -1);
     Check.due("no loss then", x.split(4, false), -999);
+    x.pair(1, 3, 0, 0);
+    x.pair(0, 1, 9, 2);
+    x.pair(0, 2, 9, 1);
+    Check.due("who waits is of no matter", x.split(4, true), 2 + 4);
+    x.seat(0, 0);
+    Check.due("a NEVER pair is aboard, 1 and 2 hang together with 0", x.split(4, true), -1);
+    x.pair(0, 1, 9, 0);
+    Check.due("the first set has the smallest guest aboard", x.split(4, true), 1 + 2 + 4);
     Coachparty y = seated(3);
     y.pair(0, 1, 1, 0);
     y.pair(0, 2, 1, 0);
@@ -224,11 +258,38 @@ public final class WouldBeTests {
     x.drive();
     x.pay(1, true);
     String before = Check.snapshot(x);
-    Check.due("all of its parts", x.digest(), byParts(x));
+    Check.due("all of its parts", x.digest(), byParts());
     Check.due("nothing is changed", Check.snapshot(x), before);
+    x.drive();
+    Check.due("a pair's quarrels", x.digest(), quarrelsAs(x, 0));
+    Check.due("not as many", x.digest() == quarrelsAs(x, 1), false);
   }
 
-  private static long byParts(Coachparty x) {
+  /** The digest of the firm of the test above, put together from its answers, with more quarrels of the pair. */
+  private static long quarrelsAs(Coachparty x, int more) {
+    long d = 4517;
+    for (int what = 0; what <= 12; what++) {
+      d = d * 31 + x.tour(what);
+    }
+    for (int guest = 0; guest < 2; guest++) {
+      for (int what = 4; what <= 10; what++) {
+        d = d * 31 + x.ofGuest(guest, what);
+      }
+    }
+    for (int seat = 0; seat < 16; seat++) {
+      d = d * 31 + x.ofSeat(seat, 0);
+    }
+    for (int what = 0; what <= 4; what++) {
+      d = d * 31 + x.ofStop(0, what);
+    }
+    int[] rest = {1, 3 + more, x.asked(), x.rooms(true), x.rooms(false), x.split(4, true), x.split(4, false), 1};
+    for (int v : rest) {
+      d = d * 31 + v;
+    }
+    return d;
+  }
+
+  private static long byParts() {
     long d = 4517;
     // The tour; then two guests, who both sit in row 0 and have no quarrel yet.
     int[] parts = {1, 16, 2, 2, 0, 0, 3 + 1 + 3 + 100, 1, 0, 40, 1, 1, 495,
