@@ -1,7 +1,13 @@
 import java.util.Objects;
+import java.util.function.Function;
+import java.util.function.Supplier;
 
 /** Counts what is not as due, and tells it. */
 final class Check {
+  static final Class<IllegalArgumentException> ARGUMENT = IllegalArgumentException.class;
+  static final Class<IllegalStateException> STATE = IllegalStateException.class;
+  static final Class<IndexOutOfBoundsException> INDEX = IndexOutOfBoundsException.class;
+
   /** A call that may throw. */
   interface Call {
     Object run();
@@ -19,17 +25,75 @@ final class Check {
     }
   }
 
+  /** What the call answers, or the class that it throws. */
+  static Object answer(Call call) {
+    try {
+      return call.run();
+    } catch (RuntimeException e) {
+      return e.getClass();
+    }
+  }
+
   /** The call has to throw just this class, and nothing that can be asked may be another than before. */
   static void thrown(String what, Coachparty x, Class<? extends RuntimeException> want, Call call) {
     String before = snapshot(x);
-    Object got;
-    try {
-      got = call.run();
-    } catch (RuntimeException e) {
-      got = e.getClass();
-    }
-    due(what, got, want);
+    due(what, answer(call), want);
     due(what + " changed nothing", snapshot(x), before);
+  }
+
+  /** As thrown, on two firms that are made alike: the one that was not called is the same to its last number. */
+  static void refused(String what, Class<? extends RuntimeException> want, Supplier<Coachparty> make,
+      Function<Coachparty, Object> call) {
+    Coachparty x = make.get();
+    due(what, answer(() -> call.apply(x)), want);
+    due(what + " changed nothing", inside(x), inside(make.get()));
+  }
+
+  /** The call has to answer that, and to change nothing. */
+  static void asked(String what, Supplier<Coachparty> make, Function<Coachparty, Object> call, Object want) {
+    Coachparty x = make.get();
+    due(what, answer(() -> call.apply(x)), want);
+    due(what + " changed nothing", inside(x), inside(make.get()));
+  }
+
+  /**
+   * All that can be found out about a firm, also what only a change tells; so the firm is another one behind it. It
+   * takes some 400 calls at most: the document promises 512.
+   */
+  static String inside(Coachparty x) {
+    StringBuilder text = new StringBuilder();
+    text.append(x.digest());
+    for (int what = 0; what <= 12; what++) {
+      text.append(' ').append(x.tour(what));
+    }
+    int guests = x.tour(2);
+    for (int guest = 0; guest < guests; guest++) {
+      text.append("\nguest ").append(guest).append(':');
+      for (int what = 0; what <= 10; what++) {
+        text.append(' ').append(x.ofGuest(guest, what));
+      }
+      for (int other = guest + 1; other < guests; other++) {
+        text.append(" | ").append(x.ofPair(guest, other, 0)).append(' ').append(x.ofPair(guest, other, 1));
+      }
+      text.append(", late ").append(x.late(guest, 0));
+    }
+    for (int stop = 0; stop < x.tour(10); stop++) {
+      text.append("\nstop ").append(stop).append(':');
+      for (int what = 0; what <= 4; what++) {
+        text.append(' ').append(x.ofStop(stop, what));
+      }
+    }
+    for (int stop = 0; stop < x.tour(10); stop++) {
+      text.append(", delay ").append(x.delay(stop, 0));
+    }
+    text.append("\nrooms ").append(x.rooms(true)).append(' ').append(x.rooms(false)).append(' ').append(x.split(5, true));
+    text.append("\nbegin ").append(x.begin(0)).append(" price ").append(x.price(0)).append(" rates ").append(x.rates(0, 0, 0));
+    text.append("\nseats ").append(x.coach(5, 0)).append(' ').append(x.tour(6));
+    for (int row = 0; row < 5; row++) {
+      text.append('\n').append(x.row(row));
+    }
+    text.append("\ndrive ").append(answer(x::drive)).append(' ').append(x.digest());
+    return text.toString();
   }
 
   /** All that can be asked of a firm. */
