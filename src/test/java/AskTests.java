@@ -1,8 +1,5 @@
 /** Promises 18 to 23: what is asked. */
 public final class AskTests {
-  private static final Class<IllegalArgumentException> ARGUMENT = IllegalArgumentException.class;
-  private static final Class<IndexOutOfBoundsException> INDEX = IndexOutOfBoundsException.class;
-
   public static void main(String[] args) {
     promise18OfGuest();
     promise19OfSeat();
@@ -17,7 +14,7 @@ public final class AskTests {
 
   private static void promise18OfGuest() {
     Coachparty x = new Coachparty();
-    Check.thrown("without guests", x, INDEX, () -> x.ofGuest(0, 0));
+    Check.thrown("without guests", x, Check.INDEX, () -> x.ofGuest(0, 0));
     x.guest(1, 2, 3, 0);
     x.guest(0, 0, 4, 7);
     x.guest(0, 0, 4, 7);
@@ -37,10 +34,10 @@ public final class AskTests {
     Check.due("waiting", x.ofGuest(2, 4), 0);
     x.cancel(2);
     Check.due("gone", x.ofGuest(2, 4), 3);
-    Check.thrown("no such guest, and what", x, INDEX, () -> x.ofGuest(3, 11));
-    Check.thrown("guest -1", x, INDEX, () -> x.ofGuest(-1, 0));
-    Check.thrown("what 11", x, ARGUMENT, () -> x.ofGuest(0, 11));
-    Check.thrown("what -1", x, ARGUMENT, () -> x.ofGuest(0, -1));
+    Check.thrown("no such guest, and what", x, Check.INDEX, () -> x.ofGuest(3, 11));
+    Check.thrown("guest -1", x, Check.INDEX, () -> x.ofGuest(-1, 0));
+    Check.thrown("what 11", x, Check.ARGUMENT, () -> x.ofGuest(0, 11));
+    Check.thrown("what -1", x, Check.ARGUMENT, () -> x.ofGuest(0, -1));
   }
 
   private static void promise19OfSeat() {
@@ -56,10 +53,10 @@ public final class AskTests {
     for (int seat = 0; seat < 16; seat++) {
       Check.due("window " + seat, x.ofSeat(seat, 2), windows[seat % 4]);
     }
-    Check.thrown("seat 16", x, INDEX, () -> x.ofSeat(16, 3));
-    Check.thrown("seat -1", x, INDEX, () -> x.ofSeat(-1, 0));
-    Check.thrown("what 3", x, ARGUMENT, () -> x.ofSeat(0, 3));
-    Check.thrown("what -1", x, ARGUMENT, () -> x.ofSeat(0, -1));
+    Check.thrown("seat 16", x, Check.INDEX, () -> x.ofSeat(16, 3));
+    Check.thrown("seat -1", x, Check.INDEX, () -> x.ofSeat(-1, 0));
+    Check.thrown("what 3", x, Check.ARGUMENT, () -> x.ofSeat(0, 3));
+    Check.thrown("what -1", x, Check.ARGUMENT, () -> x.ofSeat(0, -1));
   }
 
   private static void promise20OfPair() {
@@ -82,11 +79,11 @@ public final class AskTests {
     }
     x.guest(0, 0, 4, 7);
     Check.due("itself, waiting", x.ofPair(2, 2, 2), -1);
-    Check.thrown("no such guest", x, INDEX, () -> x.ofPair(3, 0, 4));
-    Check.thrown("no such other", x, INDEX, () -> x.ofPair(0, 3, 0));
-    Check.thrown("other -1", x, INDEX, () -> x.ofPair(0, -1, 0));
-    Check.thrown("what 4", x, ARGUMENT, () -> x.ofPair(0, 1, 4));
-    Check.thrown("what -1, of itself", x, ARGUMENT, () -> x.ofPair(0, 0, -1));
+    Check.thrown("no such guest", x, Check.INDEX, () -> x.ofPair(3, 0, 4));
+    Check.thrown("no such other", x, Check.INDEX, () -> x.ofPair(0, 3, 0));
+    Check.thrown("other -1", x, Check.INDEX, () -> x.ofPair(0, -1, 0));
+    Check.thrown("what 4", x, Check.ARGUMENT, () -> x.ofPair(0, 1, 4));
+    Check.thrown("what -1, of itself", x, Check.ARGUMENT, () -> x.ofPair(0, 0, -1));
   }
 
   private static void stopIs(String name, Coachparty x, int stop, int... due) {
@@ -97,17 +94,17 @@ public final class AskTests {
 
   private static void promise21OfStop() {
     Coachparty x = new Coachparty();
-    Check.thrown("without stops", x, INDEX, () -> x.ofStop(0, 0));
+    Check.thrown("without stops", x, Check.INDEX, () -> x.ofStop(0, 0));
     x.stop(100, 30, 580, 0);
     x.stop(50, 30, 659, 0);
     x.stop(0, 0, 0, 0);
     stopIs("as late as it may", x, 0, 580, 0, 610, 0, 100);
     stopIs("cut", x, 1, 660, 1, 660, 0, 150);
     stopIs("no way", x, 2, 660, 1, 660, 0, 150);
-    Check.thrown("no such stop, and what", x, INDEX, () -> x.ofStop(3, 5));
-    Check.thrown("stop -1", x, INDEX, () -> x.ofStop(-1, 0));
-    Check.thrown("what 5", x, ARGUMENT, () -> x.ofStop(0, 5));
-    Check.thrown("what -1", x, ARGUMENT, () -> x.ofStop(0, -1));
+    Check.thrown("no such stop, and what", x, Check.INDEX, () -> x.ofStop(3, 5));
+    Check.thrown("stop -1", x, Check.INDEX, () -> x.ofStop(-1, 0));
+    Check.thrown("what 5", x, Check.ARGUMENT, () -> x.ofStop(0, 5));
+    Check.thrown("what -1", x, Check.ARGUMENT, () -> x.ofStop(0, -1));
   }
 
   private static void promise21Breaks() {
@@ -201,8 +198,8 @@ public final class AskTests {
     Check.due("leaves the last one with an arrival", x.tour(12), 480 + 310 + 45);
     x.begin(7);
     x.coach(2, 4);
-    Check.thrown("what 13", x, ARGUMENT, () -> x.tour(13));
-    Check.thrown("what -1", x, ARGUMENT, () -> x.tour(-1));
+    Check.thrown("what 13", x, Check.ARGUMENT, () -> x.tour(13));
+    Check.thrown("what -1", x, Check.ARGUMENT, () -> x.tour(-1));
     Coachparty y = new Coachparty();
     y.stop(600, 9, 2000, 0);
     y.begin(33);
@@ -221,11 +218,11 @@ public final class AskTests {
     Check.due("free ones", x.row(0), ". .|. .");
     Check.due("guests and an out one", x.row(1), "9 .|0 x");
     Check.due("the last row", x.row(3), ". .|. .");
-    Check.thrown("row 4 of four", x, INDEX, () -> x.row(4));
-    Check.thrown("row -1", x, INDEX, () -> x.row(-1));
+    Check.thrown("row 4 of four", x, Check.INDEX, () -> x.row(4));
+    Check.thrown("row -1", x, Check.INDEX, () -> x.row(-1));
     x.coach(5, 0);
     Check.due("row 4 of five", x.row(4), ". .|. .");
     x.coach(2, 0);
-    Check.thrown("row 2 of two", x, INDEX, () -> x.row(2));
+    Check.thrown("row 2 of two", x, Check.INDEX, () -> x.row(2));
   }
 }

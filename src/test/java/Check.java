@@ -86,8 +86,10 @@ final class Check {
     for (int stop = 0; stop < x.tour(10); stop++) {
       text.append(", delay ").append(x.delay(stop, 0));
     }
-    text.append("\nrooms ").append(x.rooms(true)).append(' ').append(x.rooms(false)).append(' ').append(x.split(5, true));
-    text.append("\nbegin ").append(x.begin(0)).append(" price ").append(x.price(0)).append(" rates ").append(x.rates(0, 0, 0));
+    text.append("\nrooms ").append(x.rooms(true)).append(' ').append(x.rooms(false));
+    text.append(" split ").append(x.split(5, true)).append(' ').append(x.split(5, false));
+    text.append("\nbegin ").append(x.begin(0)).append(" price ").append(x.price(0));
+    text.append(" double ").append(x.rates(0, 0, 0));
     text.append("\nseats ").append(x.coach(5, 0)).append(' ').append(x.tour(6));
     for (int row = 0; row < 5; row++) {
       text.append('\n').append(x.row(row));

@@ -1,9 +1,5 @@
 /** Promises 1 to 8: the coach and the guests. */
 public final class CoachTests {
-  private static final Class<IllegalArgumentException> ARGUMENT = IllegalArgumentException.class;
-  private static final Class<IllegalStateException> STATE = IllegalStateException.class;
-  private static final Class<IndexOutOfBoundsException> INDEX = IndexOutOfBoundsException.class;
-
   public static void main(String[] args) {
     promise1New();
     promise2Coach();
@@ -16,16 +12,6 @@ public final class CoachTests {
     promise7Settle();
     promise8Seat();
     Check.end();
-  }
-
-  /** A firm with so many guests whom nothing bothers, on the seats 0, 1, 2 .. */
-  private static Coachparty seated(int guests) {
-    Coachparty x = new Coachparty();
-    for (int guest = 0; guest < guests; guest++) {
-      x.guest(0, 0, 4, 7);
-      x.seat(guest, guest);
-    }
-    return x;
   }
 
   private static void promise1New() {
@@ -47,10 +33,10 @@ public final class CoachTests {
     Coachparty x = new Coachparty();
     Check.due("two rows", x.coach(2, 0), 8);
     Check.due("five rows", x.coach(5, 4), 20);
-    Check.thrown("one row", x, ARGUMENT, () -> x.coach(1, 0));
-    Check.thrown("six rows", x, ARGUMENT, () -> x.coach(6, 0));
-    Check.thrown("axle below 0", x, ARGUMENT, () -> x.coach(4, -1));
-    Check.thrown("axle 5", x, ARGUMENT, () -> x.coach(4, 5));
+    Check.thrown("one row", x, Check.ARGUMENT, () -> x.coach(1, 0));
+    Check.thrown("six rows", x, Check.ARGUMENT, () -> x.coach(6, 0));
+    Check.thrown("axle below 0", x, Check.ARGUMENT, () -> x.coach(4, -1));
+    Check.thrown("axle 5", x, Check.ARGUMENT, () -> x.coach(4, 5));
     x.out(19, true);
     x.out(3, true);
     Check.due("seats with those that are out", x.coach(3, 1), 12);
@@ -59,8 +45,8 @@ public final class CoachTests {
     Check.due("seat 19 stayed out", x.ofSeat(19, 1), 1);
     x.guest(0, 0, 4, 7);
     x.seat(0, 12);
-    Check.thrown("the guest on 12 would have no seat", x, STATE, () -> x.coach(3, 0));
-    Check.thrown("the argument goes first", x, ARGUMENT, () -> x.coach(1, 0));
+    Check.thrown("the guest on 12 would have no seat", x, Check.STATE, () -> x.coach(3, 0));
+    Check.thrown("the argument goes first", x, Check.ARGUMENT, () -> x.coach(1, 0));
     Check.due("row 3 is enough", x.coach(4, 1), 16);
     x.move(0, 11);
     Check.due("the last seat of three rows", x.coach(3, 1), 12);
@@ -73,15 +59,15 @@ public final class CoachTests {
     Check.due("out again", x.out(5, true), 1);
     Check.due("two are out", x.out(15, true), 2);
     Check.due("one is no more", x.out(5, false), 1);
-    Check.thrown("seat 16 of four rows", x, INDEX, () -> x.out(16, true));
-    Check.thrown("seat -1", x, INDEX, () -> x.out(-1, true));
+    Check.thrown("seat 16 of four rows", x, Check.INDEX, () -> x.out(16, true));
+    Check.thrown("seat -1", x, Check.INDEX, () -> x.out(-1, true));
     x.coach(2, 1);
     Check.due("only those that are there count", x.out(0, true), 1);
     x.guest(0, 0, 4, 7);
     x.seat(0, 1);
-    Check.thrown("taken", x, STATE, () -> x.out(1, true));
-    Check.thrown("taken, and not to be out", x, STATE, () -> x.out(1, false));
-    Check.thrown("not there now", x, INDEX, () -> x.out(8, false));
+    Check.thrown("taken", x, Check.STATE, () -> x.out(1, true));
+    Check.thrown("taken, and not to be out", x, Check.STATE, () -> x.out(1, false));
+    Check.thrown("not there now", x, Check.INDEX, () -> x.out(8, false));
   }
 
   private static void promise4Guest() {
@@ -89,7 +75,7 @@ public final class CoachTests {
     int[][] bad = {{-1, 0, 0, 0}, {10, 0, 0, 0}, {0, -1, 0, 0}, {0, 10, 0, 0}, {0, 0, -1, 0}, {0, 0, 5, 0},
         {0, 0, 0, -1}, {0, 0, 0, 8}};
     for (int[] b : bad) {
-      Check.thrown("a wrong guest", x, ARGUMENT, () -> x.guest(b[0], b[1], b[2], b[3]));
+      Check.thrown("a wrong guest", x, Check.ARGUMENT, () -> x.guest(b[0], b[1], b[2], b[3]));
     }
     Check.due("the first", x.guest(9, 8, 4, 7), 0);
     int[] facts = {9, 8, 4, 7, 0, -1, 0, 0, 0, 0, 0};
@@ -99,10 +85,10 @@ public final class CoachTests {
     for (int guest = 1; guest < 10; guest++) {
       Check.due("the next", x.guest(0, 0, 0, 0), guest);
     }
-    Check.thrown("an eleventh", x, STATE, () -> x.guest(0, 0, 0, 0));
-    Check.thrown("the argument goes first", x, ARGUMENT, () -> x.guest(0, 0, 0, 8));
+    Check.thrown("an eleventh", x, Check.STATE, () -> x.guest(0, 0, 0, 0));
+    Check.thrown("the argument goes first", x, Check.ARGUMENT, () -> x.guest(0, 0, 0, 8));
     x.cancel(4);
-    Check.thrown("who is gone counts", x, STATE, () -> x.guest(0, 0, 0, 0));
+    Check.thrown("who is gone counts", x, Check.STATE, () -> x.guest(0, 0, 0, 0));
   }
 
   private static void promise5Pair() {
@@ -113,21 +99,21 @@ public final class CoachTests {
     Check.due("bond before, from the other side", x.pair(1, 0, -9, 2), 9);
     Check.due("bond", x.ofPair(0, 1, 0), -9);
     Check.due("law from the other side", x.ofPair(1, 0, 1), 2);
-    Check.thrown("no guest 2", x, INDEX, () -> x.pair(2, 0, 0, 0));
-    Check.thrown("no guest 2 as the other", x, INDEX, () -> x.pair(0, 2, 0, 0));
-    Check.thrown("no guest -1", x, INDEX, () -> x.pair(0, -1, 0, 0));
-    Check.thrown("the index goes first", x, INDEX, () -> x.pair(2, 2, 10, 3));
-    Check.thrown("with itself", x, ARGUMENT, () -> x.pair(1, 1, 0, 0));
-    Check.thrown("bond 10", x, ARGUMENT, () -> x.pair(0, 1, 10, 0));
-    Check.thrown("bond -10", x, ARGUMENT, () -> x.pair(0, 1, -10, 0));
-    Check.thrown("law 3", x, ARGUMENT, () -> x.pair(0, 1, 0, 3));
-    Check.thrown("law -1", x, ARGUMENT, () -> x.pair(0, 1, 0, -1));
+    Check.thrown("no guest 2", x, Check.INDEX, () -> x.pair(2, 0, 0, 0));
+    Check.thrown("no guest 2 as the other", x, Check.INDEX, () -> x.pair(0, 2, 0, 0));
+    Check.thrown("no guest -1", x, Check.INDEX, () -> x.pair(0, -1, 0, 0));
+    Check.thrown("the index goes first", x, Check.INDEX, () -> x.pair(2, 2, 10, 3));
+    Check.thrown("with itself", x, Check.ARGUMENT, () -> x.pair(1, 1, 0, 0));
+    Check.thrown("bond 10", x, Check.ARGUMENT, () -> x.pair(0, 1, 10, 0));
+    Check.thrown("bond -10", x, Check.ARGUMENT, () -> x.pair(0, 1, -10, 0));
+    Check.thrown("law 3", x, Check.ARGUMENT, () -> x.pair(0, 1, 0, 3));
+    Check.thrown("law -1", x, Check.ARGUMENT, () -> x.pair(0, 1, 0, -1));
     x.cancel(0);
     Check.due("who is gone has its pairs still", x.pair(0, 1, 4, 0), -9);
   }
 
   private static void promise6Move() {
-    Coachparty x = seated(2);
+    Coachparty x = Firms.seated(2);
     x.pair(0, 1, 5, 0);
     Check.due("to a free seat", x.move(0, 7), 0);
     Check.due("its seat is free", x.row(0), ". 1|. .");
@@ -140,12 +126,12 @@ public final class CoachTests {
     Check.due("it is still there", x.ofGuest(0, 5), 1);
     x.guest(0, 0, 4, 7);
     x.out(9, true);
-    Check.thrown("no such guest", x, INDEX, () -> x.move(3, 0));
-    Check.thrown("guest -1", x, INDEX, () -> x.move(-1, 0));
-    Check.thrown("no such seat", x, INDEX, () -> x.move(0, 16));
-    Check.thrown("seat -1, of one who waits", x, INDEX, () -> x.move(2, -1));
-    Check.thrown("who waits", x, STATE, () -> x.move(2, 0));
-    Check.thrown("to a seat that is out", x, STATE, () -> x.move(0, 9));
+    Check.thrown("no such guest", x, Check.INDEX, () -> x.move(3, 0));
+    Check.thrown("guest -1", x, Check.INDEX, () -> x.move(-1, 0));
+    Check.thrown("no such seat", x, Check.INDEX, () -> x.move(0, 16));
+    Check.thrown("seat -1, of one who waits", x, Check.INDEX, () -> x.move(2, -1));
+    Check.thrown("who waits", x, Check.STATE, () -> x.move(2, 0));
+    Check.thrown("to a seat that is out", x, Check.STATE, () -> x.move(0, 9));
   }
 
   private static void promise6CostParts() {
@@ -240,7 +226,7 @@ public final class CoachTests {
     Check.due("0 went to the smallest seat", z.row(0), "0 1|. x");
     Check.due("2 went to the other window", z.row(1), "2 .|. x");
 
-    Coachparty w = seated(2);
+    Coachparty w = Firms.seated(2);
     w.pair(0, 1, 0, 2);
     w.coach(4, 1);
     Check.due("a breach is mended", w.settle(), 1);
@@ -258,19 +244,19 @@ public final class CoachTests {
     Check.due("two aboard, behind its row at the most", x.seat(0, 15), 2);
     Check.due("aboard", x.ofGuest(0, 4), 1);
     Check.due("its seat", x.ofGuest(0, 5), 15);
-    Check.thrown("no such guest", x, INDEX, () -> x.seat(3, 0));
-    Check.thrown("guest -1", x, INDEX, () -> x.seat(-1, 0));
-    Check.thrown("no such seat", x, INDEX, () -> x.seat(2, 16));
-    Check.thrown("no such seat, and aboard", x, INDEX, () -> x.seat(1, -1));
-    Check.thrown("aboard", x, STATE, () -> x.seat(1, 0));
-    Check.thrown("out", x, STATE, () -> x.seat(2, 4));
-    Check.thrown("taken", x, STATE, () -> x.seat(2, 3));
+    Check.thrown("no such guest", x, Check.INDEX, () -> x.seat(3, 0));
+    Check.thrown("guest -1", x, Check.INDEX, () -> x.seat(-1, 0));
+    Check.thrown("no such seat", x, Check.INDEX, () -> x.seat(2, 16));
+    Check.thrown("no such seat, and aboard", x, Check.INDEX, () -> x.seat(1, -1));
+    Check.thrown("aboard", x, Check.STATE, () -> x.seat(1, 0));
+    Check.thrown("out", x, Check.STATE, () -> x.seat(2, 4));
+    Check.thrown("taken", x, Check.STATE, () -> x.seat(2, 3));
     x.cancel(2);
-    Check.thrown("gone", x, STATE, () -> x.seat(2, 0));
+    Check.thrown("gone", x, Check.STATE, () -> x.seat(2, 0));
     x.guest(0, 0, 0, 0);
     x.stop(0, 0, 2000, 0);
     x.late(3, 1);
     x.drive();
-    Check.thrown("left behind", x, STATE, () -> x.seat(3, 0));
+    Check.thrown("left behind", x, Check.STATE, () -> x.seat(3, 0));
   }
 }

@@ -12,7 +12,7 @@ public final class DigestTests {
     wrapsAround();
     eachNumberCounts();
     orderOfItsParts();
-    withoutAStop();
+    ofNumbersBelow0();
     changesNothing();
     Check.end();
   }
@@ -103,8 +103,9 @@ public final class DigestTests {
       x.begin(begin);
       BigInteger large = unwrapped(numbers(x, 16));
       long d = x.digest();
-      Check.due("as far as 2 to 64 times something", large.subtract(BigInteger.valueOf(d)).mod(TWO_TO_64), BigInteger.ZERO);
-      Check.due("which is not nothing", large.subtract(BigInteger.valueOf(d)).signum() > 0, true);
+      BigInteger lost = large.subtract(BigInteger.valueOf(d));
+      Check.due("what is lost is 2 to 64 times something", lost.mod(TWO_TO_64), BigInteger.ZERO);
+      Check.due("which is not nothing", lost.signum() > 0, true);
       below += d < 0 ? 1 : 0;
       above += d > Integer.MAX_VALUE ? 1 : 0;
     }
@@ -126,7 +127,7 @@ public final class DigestTests {
     Coachparty z = Firms.seated(3);
     z.pay(1, true);
     differ("who paid", y, z);
-    differ("the lateness of a way", Firms.road(new int[] {7, 0, 2000, 0}), Firms.road(new int[] {8, 0, 2000, 0}));
+    differ("an arrival", Firms.road(new int[] {7, 0, 2000, 0}), Firms.road(new int[] {8, 0, 2000, 0}));
     differ("a stop that is cut", Firms.road(new int[] {7, 0, 7, 0}), Firms.road(new int[] {7, 0, 6, 0}));
     Coachparty w = Firms.seated(3);
     w.rates(59, 90, 120);
@@ -147,7 +148,7 @@ public final class DigestTests {
     Check.due("in this order", x.digest(), wrapped(all));
   }
 
-  private static void withoutAStop() {
+  private static void ofNumbersBelow0() {
     Coachparty x = Firms.seated(9);
     List<Integer> all = numbers(x, 16);
     Check.due("no split of nine in twice four", all.get(all.size() - 3), -1);

@@ -56,15 +56,7 @@ public final class ModelTests {
   }
 
   private static void call(String what, Check.Call got, Check.Call want) {
-    Check.due(what, answer(got), answer(want));
-  }
-
-  private static Object answer(Check.Call call) {
-    try {
-      return call.run();
-    } catch (RuntimeException e) {
-      return e.getClass();
-    }
+    Check.due(what, Check.answer(got), Check.answer(want));
   }
 
   private static void step(Coachparty x, Model m, String where, int op, int style) {

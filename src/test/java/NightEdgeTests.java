@@ -45,7 +45,8 @@ public final class NightEdgeTests {
 
   /** "SINGLE (60 at first), one of two DOUBLE (90 at first), one of three TRIPLE (120 at first)". */
   private static void ratesAtFirst() {
-    int[][] due = {{0, 0}, {60, 1}, {90, 1}, {120, 1}, {180, 2}, {210, 2}, {240, 2}, {300, 3}, {330, 3}, {360, 3}, {420, 4}};
+    int[][] due = {{0, 0}, {60, 1}, {90, 1}, {120, 1}, {180, 2}, {210, 2}, {240, 2}, {300, 3}, {330, 3}, {360, 3},
+        {420, 4}};
     for (int guests = 0; guests <= 10; guests++) {
       roomsAre("guests " + guests, Firms.seated(guests), due[guests][0], due[guests][1]);
     }

@@ -14,6 +14,7 @@ public final class RoadEdgeTests {
     cutIsNoStay();
     stuck();
     stuckBehind();
+    stuckAndCutBefore();
     breaksAreNotDriven();
     lastArrival();
     milesFirst();
@@ -217,6 +218,18 @@ public final class RoadEdgeTests {
     stopIs("a short way behind it is not driven", y, 2, -1, 0, -1, -1, -1);
   }
 
+  /** ofStop: "1 if it is CUT, otherwise 0": a stop without an arrival is not, though it was on another plan. */
+  private static void stuckAndCutBefore() {
+    Coachparty x = Firms.road(new int[] {300, 9, 299, 0}, new int[] {100, 9, 0, 0});
+    stopIs("cut", x, 0, 345, 1, 345, 1, 300);
+    stopIs("cut, too", x, 1, 445, 1, 445, 0, 400);
+    x.delay(0, 241);
+    stopIs("stuck by a delay", x, 0, -1, 0, -1, -1, -1);
+    stopIs("stuck behind it", x, 1, -1, 0, -1, -1, -1);
+    x.delay(0, 0);
+    stopIs("cut again", x, 1, 445, 1, 445, 0, 400);
+  }
+
   /** Breaks and stays are no minutes driven: "minutes driven since the yard as it is come to". */
   private static void breaksAreNotDriven() {
     Coachparty x = Firms.road(way(135, 300), way(135, 300), way(135, 300), way(135, 300));
@@ -299,7 +312,8 @@ public final class RoadEdgeTests {
 
   /** "-BOND * MILES / 100"; "what is divided is rounded down": pair by pair and stop by stop. */
   private static void quarrelsRounded() {
-    int[][] due = {{-1, 99, 0}, {-1, 100, 1}, {-1, 199, 1}, {-9, 11, 0}, {-9, 12, 1}, {-9, 600, 54}, {-9, 0, 0}, {-1, 600, 6}};
+    int[][] due = {{-1, 99, 0}, {-1, 100, 1}, {-1, 199, 1}, {-9, 11, 0}, {-9, 12, 1}, {-9, 600, 54}, {-9, 0, 0},
+        {-1, 600, 6}};
     for (int[] d : due) {
       Coachparty x = Firms.seated(2);
       x.pair(0, 1, d[0], 0);

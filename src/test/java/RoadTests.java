@@ -1,9 +1,5 @@
 /** Promises 9 to 17: the road and money. */
 public final class RoadTests {
-  private static final Class<IllegalArgumentException> ARGUMENT = IllegalArgumentException.class;
-  private static final Class<IllegalStateException> STATE = IllegalStateException.class;
-  private static final Class<IndexOutOfBoundsException> INDEX = IndexOutOfBoundsException.class;
-
   public static void main(String[] args) {
     promise9Stop();
     promise10Begin();
@@ -25,7 +21,7 @@ public final class RoadTests {
     int[][] bad = {{-1, 0, 0, 0}, {601, 0, 0, 0}, {0, -1, 0, 0}, {0, 301, 0, 0}, {0, 0, -1, 0}, {0, 0, 2001, 0},
         {0, 0, 0, -1}, {0, 0, 0, 601}};
     for (int[] b : bad) {
-      Check.thrown("a wrong stop", x, ARGUMENT, () -> x.stop(b[0], b[1], b[2], b[3]));
+      Check.thrown("a wrong stop", x, Check.ARGUMENT, () -> x.stop(b[0], b[1], b[2], b[3]));
     }
     Check.due("the first", x.stop(60, 300, 2000, 600), 0);
     Check.due("behind it", x.stop(600, 0, 0, 0), 1);
@@ -35,8 +31,8 @@ public final class RoadTests {
     for (int stop = 2; stop < 8; stop++) {
       Check.due("the next", x.stop(0, 0, 0, 0), stop);
     }
-    Check.thrown("a ninth", x, STATE, () -> x.stop(0, 0, 0, 0));
-    Check.thrown("the argument goes first", x, ARGUMENT, () -> x.stop(601, 0, 0, 0));
+    Check.thrown("a ninth", x, Check.STATE, () -> x.stop(0, 0, 0, 0));
+    Check.thrown("the argument goes first", x, Check.ARGUMENT, () -> x.stop(601, 0, 0, 0));
   }
 
   private static void promise10Begin() {
@@ -45,8 +41,8 @@ public final class RoadTests {
     Check.due("at first", x.begin(1439), 480);
     Check.due("then", x.begin(0), 1439);
     Check.due("arrival", x.ofStop(0, 0), 10);
-    Check.thrown("below 0", x, ARGUMENT, () -> x.begin(-1));
-    Check.thrown("1440", x, ARGUMENT, () -> x.begin(1440));
+    Check.thrown("below 0", x, Check.ARGUMENT, () -> x.begin(-1));
+    Check.thrown("1440", x, Check.ARGUMENT, () -> x.begin(1440));
     x.begin(991);
     Check.due("cut by the begin", x.ofStop(0, 1), 1);
     x.drive();
@@ -55,7 +51,7 @@ public final class RoadTests {
 
   private static void promise11Delay() {
     Coachparty x = new Coachparty();
-    Check.thrown("without stops", x, INDEX, () -> x.delay(0, 0));
+    Check.thrown("without stops", x, Check.INDEX, () -> x.delay(0, 0));
     x.stop(100, 0, 2000, 0);
     x.stop(100, 0, 2000, 0);
     Check.due("at first", x.delay(1, 300), 0);
@@ -63,10 +59,10 @@ public final class RoadTests {
     Check.due("delays are driven", x.ofStop(1, 4), 270);
     Check.due("arrival", x.ofStop(1, 0), 750);
     Check.due("the other way has none", x.ofStop(0, 0), 580);
-    Check.thrown("no such stop", x, INDEX, () -> x.delay(2, 0));
-    Check.thrown("stop -1", x, INDEX, () -> x.delay(-1, 301));
-    Check.thrown("below 0", x, ARGUMENT, () -> x.delay(0, -1));
-    Check.thrown("301", x, ARGUMENT, () -> x.delay(0, 301));
+    Check.thrown("no such stop", x, Check.INDEX, () -> x.delay(2, 0));
+    Check.thrown("stop -1", x, Check.INDEX, () -> x.delay(-1, 301));
+    Check.thrown("below 0", x, Check.ARGUMENT, () -> x.delay(0, -1));
+    Check.thrown("301", x, Check.ARGUMENT, () -> x.delay(0, 301));
     x.drive();
     Check.due("none on the next day", x.ofStop(1, 0), 680);
     Check.due("none before", x.delay(1, 1), 0);
@@ -74,14 +70,14 @@ public final class RoadTests {
 
   private static void promise12Late() {
     Coachparty x = new Coachparty();
-    Check.thrown("without guests", x, INDEX, () -> x.late(0, 0));
+    Check.thrown("without guests", x, Check.INDEX, () -> x.late(0, 0));
     x.guest(0, 0, 4, 1);
     Check.due("at first", x.late(0, 60), 0);
     Check.due("before", x.late(0, 7), 60);
-    Check.thrown("no such guest", x, INDEX, () -> x.late(1, 61));
-    Check.thrown("guest -1", x, INDEX, () -> x.late(-1, 0));
-    Check.thrown("below 0", x, ARGUMENT, () -> x.late(0, -1));
-    Check.thrown("61", x, ARGUMENT, () -> x.late(0, 61));
+    Check.thrown("no such guest", x, Check.INDEX, () -> x.late(1, 61));
+    Check.thrown("guest -1", x, Check.INDEX, () -> x.late(-1, 0));
+    Check.thrown("below 0", x, Check.ARGUMENT, () -> x.late(0, -1));
+    Check.thrown("61", x, Check.ARGUMENT, () -> x.late(0, 61));
     x.stop(0, 0, 2000, 0);
     x.drive();
     Check.due("lateness was for that day", x.late(0, 3), 0);
@@ -91,7 +87,7 @@ public final class RoadTests {
 
   private static void promise13Drive() {
     Coachparty x = new Coachparty();
-    Check.thrown("no stop", x, STATE, x::drive);
+    Check.thrown("no stop", x, Check.STATE, x::drive);
     x.stop(30, 10, 2000, 0);
     x.stop(30, 10, 2000, 0);
     x.guest(0, 0, 4, 1);
@@ -187,7 +183,7 @@ public final class RoadTests {
     }
     Check.due("the last day", x.tour(0), 60);
     Check.due("turns of all days", x.ofGuest(0, 6), 60);
-    Check.thrown("no day more", x, STATE, x::drive);
+    Check.thrown("no day more", x, Check.STATE, x::drive);
   }
 
   private static void promise14Rates() {
@@ -200,12 +196,12 @@ public final class RoadTests {
     Check.due("single", x.rooms(false), 0);
     x.rates(44, 8, 9);
     Check.due("single told", x.rooms(false), 44);
-    Check.thrown("single below 0", x, ARGUMENT, () -> x.rates(-1, 0, 0));
-    Check.thrown("single 301", x, ARGUMENT, () -> x.rates(301, 0, 0));
-    Check.thrown("double below 0", x, ARGUMENT, () -> x.rates(0, -1, 0));
-    Check.thrown("double 301", x, ARGUMENT, () -> x.rates(0, 301, 0));
-    Check.thrown("triple below 0", x, ARGUMENT, () -> x.rates(0, 0, -1));
-    Check.thrown("triple 301", x, ARGUMENT, () -> x.rates(0, 0, 301));
+    Check.thrown("single below 0", x, Check.ARGUMENT, () -> x.rates(-1, 0, 0));
+    Check.thrown("single 301", x, Check.ARGUMENT, () -> x.rates(301, 0, 0));
+    Check.thrown("double below 0", x, Check.ARGUMENT, () -> x.rates(0, -1, 0));
+    Check.thrown("double 301", x, Check.ARGUMENT, () -> x.rates(0, 301, 0));
+    Check.thrown("triple below 0", x, Check.ARGUMENT, () -> x.rates(0, 0, -1));
+    Check.thrown("triple 301", x, Check.ARGUMENT, () -> x.rates(0, 0, 301));
     Check.due("unchanged", x.rates(1, 1, 1), 8);
   }
 
@@ -213,14 +209,14 @@ public final class RoadTests {
     Coachparty x = new Coachparty();
     Check.due("at first", x.price(999), 200);
     Check.due("before", x.price(0), 999);
-    Check.thrown("below 0", x, ARGUMENT, () -> x.price(-1));
-    Check.thrown("1000", x, ARGUMENT, () -> x.price(1000));
+    Check.thrown("below 0", x, Check.ARGUMENT, () -> x.price(-1));
+    Check.thrown("1000", x, Check.ARGUMENT, () -> x.price(1000));
     Check.due("unchanged", x.price(3), 0);
   }
 
   private static void promise16Pay() {
     Coachparty x = new Coachparty();
-    Check.thrown("without guests", x, INDEX, () -> x.pay(0, true));
+    Check.thrown("without guests", x, Check.INDEX, () -> x.pay(0, true));
     x.guest(0, 0, 4, 0);
     x.guest(0, 0, 4, 0);
     x.price(199);
@@ -236,17 +232,17 @@ public final class RoadTests {
     Check.due("what a higher price asks", x.pay(0, true), 0);
     Check.due("in all", x.pay(0, false), 800);
     Check.due("takings", x.tour(9), 999);
-    Check.thrown("guest -1", x, INDEX, () -> x.pay(-1, false));
-    Check.thrown("guest 2", x, INDEX, () -> x.pay(2, false));
+    Check.thrown("guest -1", x, Check.INDEX, () -> x.pay(-1, false));
+    Check.thrown("guest 2", x, Check.INDEX, () -> x.pay(2, false));
     x.seat(0, 0);
     Check.due("aboard", x.pay(0, false), 0);
     x.cancel(1);
-    Check.thrown("gone", x, STATE, () -> x.pay(1, true));
+    Check.thrown("gone", x, Check.STATE, () -> x.pay(1, true));
   }
 
   private static void promise17Cancel() {
     Coachparty x = new Coachparty();
-    Check.thrown("without guests", x, INDEX, () -> x.cancel(0));
+    Check.thrown("without guests", x, Check.INDEX, () -> x.cancel(0));
     x.coach(2, 1);
     for (int seat = 1; seat < 8; seat++) {
       x.out(seat, true);
@@ -260,7 +256,7 @@ public final class RoadTests {
     Check.due("gone", x.ofGuest(6, 4), 3);
     Check.due("nothing is left of it", x.ofGuest(6, 8), 0);
     Check.due("takings", x.tour(9), 0);
-    Check.thrown("gone already", x, STATE, () -> x.cancel(6));
+    Check.thrown("gone already", x, Check.STATE, () -> x.cancel(6));
     x.pay(1, false);
     x.pay(2, false);
     x.pay(3, true);
@@ -268,7 +264,7 @@ public final class RoadTests {
     x.late(1, 1);
     x.stop(0, 0, 2000, 0);
     x.drive();
-    Check.thrown("aboard", x, STATE, () -> x.cancel(0));
+    Check.thrown("aboard", x, Check.STATE, () -> x.cancel(0));
     Check.due("too late: nothing", x.cancel(1), 0);
     Check.due("it keeps what was paid", x.ofGuest(1, 8), 95);
     Check.due("for want of a seat: 20", x.cancel(2), 20);
@@ -279,7 +275,7 @@ public final class RoadTests {
     Check.due("takings", x.tour(9), 95 + 75 + 0 + 48);
     Check.due("all but one are gone", x.tour(5), 6);
     Check.due("nobody is left behind now", x.tour(4), 0);
-    Check.thrown("no such guest", x, INDEX, () -> x.cancel(7));
-    Check.thrown("guest -1", x, INDEX, () -> x.cancel(-1));
+    Check.thrown("no such guest", x, Check.INDEX, () -> x.cancel(7));
+    Check.thrown("guest -1", x, Check.INDEX, () -> x.cancel(-1));
   }
 }

@@ -27,7 +27,9 @@ public final class SeatingEdgeTests {
     askedNone();
     askedOne();
     askedTwo();
+    askedTwoTheOtherWay();
     askedSeats();
+    askedSeatsThere();
     Check.end();
   }
 
@@ -507,6 +509,46 @@ public final class SeatingEdgeTests {
     Check.due("a seat for one, the other needs that of 1: three go", x.asked(), 3);
     x.out(2, false);
     Check.due("a seat for each", x.asked(), 2);
+  }
+
+  /** The seat 0 is for the greater number of both, and the last one for the smaller. */
+  private static void askedTwoTheOtherWay() {
+    Coachparty x = new Coachparty();
+    x.coach(2, 1);
+    x.guest(0, 0, 4, 0);
+    x.guest(0, 0, 0, 0);
+    x.seat(0, 0);
+    x.seat(1, 7);
+    for (int seat = 1; seat < 7; seat++) {
+      x.out(seat, true);
+    }
+    Check.due("they swap", x.asked(), 2);
+    Check.due("they did not", x.row(0) + "/" + x.row(1), "0 x|x x/x x|x 1");
+    x.coach(3, 1);
+    Check.due("a free row more is of no use to 1", x.asked(), 2);
+    x.out(3, false);
+    Check.due("a free seat in the row 0 is", x.asked(), 1);
+  }
+
+  /** Only the seats that there are: none behind the last row, though nobody sits there and it is not out. */
+  private static void askedSeatsThere() {
+    for (int rows = 2; rows <= 4; rows++) {
+      int last = rows * 4 - 4;
+      Coachparty x = Firms.waiting(2, 7);
+      x.coach(rows, 1);
+      x.pair(0, 1, 0, 1);
+      x.seat(0, last);
+      x.seat(1, 3);
+      for (int seat = 0; seat < rows * 4; seat++) {
+        if (seat != last && seat != 3) {
+          x.out(seat, true);
+        }
+      }
+      Check.due("no seat behind the last row of " + rows, x.asked(), 3);
+      Check.due("nobody can be settled there", x.settle(), 0);
+      x.coach(rows + 1, 1);
+      Check.due("a seat behind it, a row more than " + rows, x.asked(), 1);
+    }
   }
 
   /** "All SEATS that are not OUT can be taken that are free, or of those who go": no seat of one who stays. */

@@ -1,9 +1,5 @@
 /** Promises 24 to 29: what would be. */
 public final class WouldBeTests {
-  private static final Class<IllegalArgumentException> ARGUMENT = IllegalArgumentException.class;
-  private static final Class<IllegalStateException> STATE = IllegalStateException.class;
-  private static final Class<IndexOutOfBoundsException> INDEX = IndexOutOfBoundsException.class;
-
   public static void main(String[] args) {
     promise24Would();
     promise25Asked();
@@ -13,15 +9,6 @@ public final class WouldBeTests {
     promise28IsSound();
     promise29Digest();
     Check.end();
-  }
-
-  private static Coachparty seated(int guests) {
-    Coachparty x = new Coachparty();
-    for (int guest = 0; guest < guests; guest++) {
-      x.guest(0, 0, 4, 7);
-      x.seat(guest, guest);
-    }
-    return x;
   }
 
   private static void promise24Would() {
@@ -41,11 +28,11 @@ public final class WouldBeTests {
     Check.due("nothing is changed", Check.snapshot(x), before);
     Check.due("as the move then says", x.move(0, 14), 2 - 4 + 115);
     x.out(9, true);
-    Check.thrown("no such guest", x, INDEX, () -> x.would(3, 0));
-    Check.thrown("no such seat, of one who waits", x, INDEX, () -> x.would(2, 16));
-    Check.thrown("seat -1", x, INDEX, () -> x.would(0, -1));
-    Check.thrown("who waits", x, STATE, () -> x.would(2, 0));
-    Check.thrown("out", x, STATE, () -> x.would(0, 9));
+    Check.thrown("no such guest", x, Check.INDEX, () -> x.would(3, 0));
+    Check.thrown("no such seat, of one who waits", x, Check.INDEX, () -> x.would(2, 16));
+    Check.thrown("seat -1", x, Check.INDEX, () -> x.would(0, -1));
+    Check.thrown("who waits", x, Check.STATE, () -> x.would(2, 0));
+    Check.thrown("out", x, Check.STATE, () -> x.would(0, 9));
   }
 
   private static void promise25Asked() {
@@ -89,7 +76,7 @@ public final class WouldBeTests {
     x.out(2, false);
     Check.due("two seats are free", x.asked(), 2);
 
-    Coachparty y = seated(3);
+    Coachparty y = Firms.seated(3);
     y.pair(0, 1, 0, 2);
     y.pair(1, 2, 0, 2);
     y.pair(0, 2, 0, 2);
@@ -99,14 +86,14 @@ public final class WouldBeTests {
     y.pair(0, 2, 0, 1);
     Check.due("must, and the one between goes", y.asked(), 2);
 
-    Coachparty z = seated(2);
+    Coachparty z = Firms.seated(2);
     z.coach(2, 0);
     z.guest(0, 0, 0, 7);
     z.seat(2, 4);
     z.pair(0, 2, 0, 2);
     z.pair(1, 2, 0, 1);
     Check.due("no other seat of one is far from 0 and beside 1", z.asked(), 2);
-    Coachparty w = seated(2);
+    Coachparty w = Firms.seated(2);
     w.pair(0, 1, 0, 1);
     w.move(1, 15);
     w.coach(4, 0);
@@ -154,7 +141,7 @@ public final class WouldBeTests {
     x.pair(1, 3, 9, 0);
     Check.due("below 0", x.rooms(false), -27);
     Check.due("0 and 4 each in one", x.rooms(true), 3);
-    Coachparty z = seated(6);
+    Coachparty z = Firms.seated(6);
     z.pair(0, 4, 9, 0);
     z.pair(0, 5, 9, 0);
     z.pair(4, 5, 9, 0);
@@ -162,7 +149,7 @@ public final class WouldBeTests {
     z.pair(2, 3, 9, 0);
     Check.due("three friends, and three others", z.rooms(false), 240 - 27 - 18);
     Check.due("in two groups", z.rooms(true), 2);
-    Coachparty y = seated(2);
+    Coachparty y = Firms.seated(2);
     y.pair(0, 1, -9, 0);
     y.rates(40, 71, 0);
     Check.due("a quarrel is paid, too", x.rooms(true) * 100 + y.rooms(false), 380);
@@ -173,8 +160,8 @@ public final class WouldBeTests {
     Coachparty x = new Coachparty();
     Check.due("nobody, the set", x.split(1, true), 0);
     Check.due("nobody, the loss", x.split(12, false), 0);
-    Check.thrown("no seats", x, ARGUMENT, () -> x.split(0, true));
-    Check.thrown("13", x, ARGUMENT, () -> x.split(13, false));
+    Check.thrown("no seats", x, Check.ARGUMENT, () -> x.split(0, true));
+    Check.thrown("13", x, Check.ARGUMENT, () -> x.split(13, false));
     x.guest(0, 0, 4, 7);
     for (int guest = 1; guest < 5; guest++) {
       x.guest(0, 0, 4, 7);
@@ -208,7 +195,7 @@ public final class WouldBeTests {
     Check.due("a NEVER pair is aboard, 1 and 2 hang together with 0", x.split(4, true), -1);
     x.pair(0, 1, 9, 0);
     Check.due("the first set has the smallest guest aboard", x.split(4, true), 1 + 2 + 4);
-    Coachparty y = seated(3);
+    Coachparty y = Firms.seated(3);
     y.pair(0, 1, 1, 0);
     y.pair(0, 2, 1, 0);
     Check.due("the second one may be empty", y.split(3, true), 7);
