@@ -34,14 +34,17 @@ final class Check {
     }
   }
 
-  /** The call has to throw just this class, and nothing that can be asked may be another than before. */
+  /**
+   * The call has to throw just this class, and the checksum is the same behind it. It takes three calls, so that a test
+   * can do this often on one firm: nothing is promised of what a firm answers after its 512th call.
+   */
   static void thrown(String what, Coachparty x, Class<? extends RuntimeException> want, Call call) {
-    String before = snapshot(x);
+    long before = x.digest();
     due(what, answer(call), want);
-    due(what + " changed nothing", snapshot(x), before);
+    due(what + " changed nothing", x.digest(), before);
   }
 
-  /** As thrown, on two firms that are made alike: the one that was not called is the same to its last number. */
+  /** As thrown, but to the last number: on two firms that are made alike, of which one is not called. */
   static void refused(String what, Class<? extends RuntimeException> want, Supplier<Coachparty> make,
       Function<Coachparty, Object> call) {
     Coachparty x = make.get();

@@ -1,4 +1,7 @@
-/** Nobody, one and ten guests; no stop, one and eight; a free, a full and an out coach; the day 0 and the day 60. */
+/**
+ * Nobody, one and ten guests; no stop, one and eight; a free, a full and an out coach; the day 0 and the day 60; the
+ * 512th call.
+ */
 public final class CountTests {
   public static void main(String[] args) {
     nobody();
@@ -16,6 +19,7 @@ public final class CountTests {
     oneSeatLeft();
     firstDay();
     lastDay();
+    lastCall();
     Check.end();
   }
 
@@ -293,5 +297,22 @@ public final class CountTests {
     Check.due("day 60: what is owed is paid", x.tour(6), 60);
     Check.due("day 60: settle", x.settle(), 1);
     Check.due("day 60: one can be told", x.guest(0, 0, 0, 0), 4);
+  }
+
+  /** "An object is used for at most 512 calls after it has been made": the last of them is answered, too. */
+  private static void lastCall() {
+    Coachparty x = Firms.waiting(1, 7);
+    x.seat(0, 0);
+    for (int call = 3; call <= 511; call++) {
+      Check.due("move, call " + call, x.move(0, call % 16), 0);
+    }
+    Coachparty fresh = Firms.waiting(1, 7);
+    fresh.seat(0, 511 % 16);
+    Check.due("the call 512", x.digest(), fresh.digest());
+    Coachparty y = new Coachparty();
+    for (int call = 1; call <= 511; call++) {
+      Check.due("wrong, call " + call, Check.answer(() -> y.out(16, true)), Check.INDEX);
+    }
+    Check.due("the call 512, behind wrong ones", y.digest(), new Coachparty().digest());
   }
 }

@@ -433,7 +433,9 @@ final class Model {
         g.seat = a;
         if (h != null) h.seat = b;
         boolean isSeating = !isOut[a] && (h == null || !isOut[b]);
-        for (Guest one : aboard()) for (Guest other : aboard()) if (one != other && one.seat == other.seat) isSeating = false;
+        for (Guest one : aboard()) {
+          for (Guest other : aboard()) if (one != other && one.seat == other.seat) isSeating = false;
+        }
         can = isSeating && breaches() == 0;
       }
     }
@@ -456,7 +458,9 @@ final class Model {
       int cost = 0;
       for (List<Guest> group : groups) cost += group.size() == 1 ? single : group.size() == 2 ? twice : triple;
       for (List<Guest> group : groups) {
-        for (Guest g : group) for (Guest h : group) if (guests.indexOf(g) < guests.indexOf(h)) cost -= g.bond[guests.indexOf(h)];
+        for (Guest g : group) {
+          for (Guest h : group) if (guests.indexOf(g) < guests.indexOf(h)) cost -= g.bond[guests.indexOf(h)];
+        }
       }
       if (bestGroups < 0 || cost < bestCost || cost == bestCost && groups.size() < bestGroups) {
         bestCost = cost;

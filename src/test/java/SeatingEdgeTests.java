@@ -24,6 +24,7 @@ public final class SeatingEdgeTests {
     settleMostLowered();
     settleTies();
     settleGoesOn();
+    settleOnlyAboard();
     askedNone();
     askedOne();
     askedTwo();
@@ -456,6 +457,26 @@ public final class SeatingEdgeTests {
     Check.due("to four windows, the greatest wish first", x.row(0) + x.row(1) + x.row(2), "0 .|. 12 .|. 3. .|. .");
     Check.due("no more", x.settle(), 0);
     Check.due("cost", x.tour(6), 0);
+  }
+
+  /** "A GUEST ABOARD goes to a SEAT": who waits or is gone stays where it is, and keeps nobody from moving. */
+  private static void settleOnlyAboard() {
+    Coachparty x = new Coachparty();
+    for (int guest = 0; guest < 4; guest++) {
+      x.guest(0, 5, 4, 7);
+    }
+    x.pair(0, 2, 9, 0);
+    x.pair(2, 3, 9, 0);
+    x.cancel(1);
+    x.seat(2, 6);
+    Check.due("one has no window", x.settle(), 1);
+    Check.due("it has one now", x.row(0) + "/" + x.row(1), "2 .|. ./. .|. .");
+    Check.due("cost", x.tour(6), 0);
+    int[] states = {0, 3, 1, 0};
+    for (int guest = 0; guest < 4; guest++) {
+      Check.due("state of " + guest, x.ofGuest(guest, 4), states[guest]);
+      Check.due("seat of " + guest, x.ofGuest(guest, 5), guest == 2 ? 0 : -1);
+    }
   }
 
   /** asked: "0, 1 or 2; 3 if that is not enough": 0, if the seating is lawful, however dear it is. */

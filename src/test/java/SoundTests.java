@@ -71,6 +71,13 @@ public final class SoundTests {
     outs[9] = false;
     outs[0] = true;
     soundIs("out, and the first one sits there", x, false);
+    Coachparty y = Firms.seated(2);
+    y.move(1, 14);
+    boolean[] others = (boolean[]) part(part(y, "cabin"), "outs");
+    others[1] = true;
+    soundIs("out, and free; 1 sits elsewhere", y, true);
+    others[14] = true;
+    soundIs("out, and 1 sits there", y, false);
   }
 
   /** ".. or not there". */
